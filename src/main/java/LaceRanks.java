@@ -206,7 +206,7 @@ public final class LaceRanks {
     }
 
     public int keep() {
-        snapshot.copyFrom(now);
+        snapshot.copyState(now);
         hasSnapshot = true;
         return now.nightNumber;
     }
@@ -214,7 +214,7 @@ public final class LaceRanks {
     public int restore() throws IllegalStateException {
         needState(hasSnapshot);
         history.save(now);
-        now.copyFrom(snapshot);
+        now.copyState(snapshot);
         return now.nightNumber;
     }
 
@@ -560,7 +560,7 @@ public final class LaceRanks {
             }
         }
 
-        private void copyFrom(Guests other) {
+        private void copyGuests(Guests other) {
             copyRow(other.rank, rank);
             copyRow(other.purse, purse);
             copyRow(other.debts, debts);
@@ -636,7 +636,7 @@ public final class LaceRanks {
             }
         }
 
-        private void copyFrom(Lines other) {
+        private void copyLines(Lines other) {
             copyRow(other.places, places);
             copyRow(other.lengths, lengths);
         }
@@ -946,9 +946,9 @@ public final class LaceRanks {
             }
         }
 
-        private void copyFrom(Carnival other) {
-            guests.copyFrom(other.guests);
-            lines.copyFrom(other.lines);
+        private void copyState(Carnival other) {
+            guests.copyGuests(other.guests);
+            lines.copyLines(other.lines);
             copyRow(other.settings, settings);
             nightNumber = other.nightNumber;
             chest = other.chest;
@@ -981,7 +981,7 @@ public final class LaceRanks {
             }
             Carnival free = stateAt(size);
             if (free != null) {
-                free.copyFrom(state);
+                free.copyState(state);
                 size++;
             }
         }
@@ -989,7 +989,7 @@ public final class LaceRanks {
         private void bringBack(Carnival state) {
             Carnival latest = stateAt(size - 1);
             if (latest != null) {
-                state.copyFrom(latest);
+                state.copyState(latest);
                 size--;
             }
         }

@@ -116,6 +116,36 @@ final class PromiseTest {
         C.due("3: undone", x.guest(3, 8), 1);
     }
 
+    private static void promise3LeaveFromAmongOthers() {
+        LaceRanks x = new LaceRanks();
+        x.come(0, 1, 9);
+        x.come(1, 2, 9);
+        x.come(2, 3, 9);
+        x.mask(1);
+        x.queue(2, 0);
+        x.leave(0);
+        row("3: the masked one", numbers(x, 0), 1, 6, 0, 2, 0, 2, 2, 0, -1, -1, -1);
+        row("3: the first in the line of gate 0", numbers(x, 1), 2, 9, 0, 3, 1, 3, 0, 0, 0, 0, -1);
+        x.open(0);
+        x.leave(0);
+        row("3: the one inside", numbers(x, 0), 2, 9, 0, 3, 0, 3, 0, 1, -1, -1, -1);
+        C.due("3: the one inside", x.count(14), 1);
+        x.come(0, 1, 9);
+        C.due("3: one who comes is outside", x.guest(1, 7), 0);
+
+        LaceRanks y = new LaceRanks();
+        y.come(0, 30, 2);
+        y.queue(0, 0);
+        y.open(0);
+        y.night();
+        y.earn(0, 3);
+        y.mask(0);
+        C.due("3: the debts", y.leave(0), 54);
+        row("3: nobody", counts(y, 0, 14), 1, 0, 0, 0, 0, 5, 0, 5, 0, 28, 28, 1, 28, 0, 0);
+        y.come(3, 4, 5);
+        row("3: one who comes has nothing of one who left", numbers(y, 0), 3, 5, 0, 4, 0, 4, 0, 0, -1, -1, -1);
+    }
+
     private static void promise4Earn() {
         LaceRanks x = withGuests(1);
         C.due("4: earn", x.earn(0, 1), 21);
@@ -145,7 +175,8 @@ final class PromiseTest {
         C.noState("5: the other one wears one that was lent", x, () -> x.lend(2, 1));
         C.due("5: to one without a coat", x.lend(2, 0), 10);
         C.due("5: a lender who wears another one", x.guest(0, 4), 2);
-        C.noIndex("5: no such guest", x, () -> x.lend(4, 4));
+        C.noIndex("5: no such guest", x, () -> x.lend(4, 0));
+        C.noIndex("5: no such guest", x, () -> x.lend(-1, 0));
         C.noIndex("5: no such other", x, () -> x.lend(0, 4));
         C.noIndex("5: no such other", x, () -> x.lend(0, -1));
         x.queue(3, 0);
@@ -266,7 +297,7 @@ final class PromiseTest {
 
     private static void promise10Open() {
         LaceRanks x = new LaceRanks();
-        C.noIndex("10: no such gate", x, () -> x.open(3));
+        C.noIndex("10: no such gate, ahead of the empty line", x, () -> x.open(3));
         C.noIndex("10: no such gate", x, () -> x.open(-1));
         C.noState("10: an empty line", x, () -> x.open(0));
         x.come(0, 10, 5);
@@ -333,10 +364,19 @@ final class PromiseTest {
         C.due("10: the debts", y.guest(1, 2), 75);
         y.night();
         y.earn(2, 5);
+        y.queue(0, 1);
+        C.due("10: masked for the last night", y.open(1), 0);
+        C.due("10: it pays a ribbon", y.guest(0, 1), 0);
         y.queue(2, 1);
         C.due("10: masked without a coat", y.open(1), 0);
         C.due("10: pays nothing", y.guest(2, 1), 5);
         C.due("10: fined so far", y.count(11), 1);
+
+        LaceRanks z = new LaceRanks();
+        z.come(0, 3, 9);
+        z.queue(0, 0);
+        C.due("10: one ell", z.open(0), 1);
+        row("10: one ell", counts(z, 4, 12), 7, 2, 0, 9, 2, 1, 3, 1, 1);
     }
 
     private static void promise11Night() {
@@ -436,6 +476,7 @@ final class PromiseTest {
             C.noArgument("16: not complete: " + text, x, x::revel);
             C.due("16: the buffer stays", x.clearBuffer(), text.length());
         }
+        x.clearBuffer();
         C.due("16: all", revel(x, "m0;q0>0;q1>0;l2>1;o0*10;$1;o1;^"), 8);
         C.due("16: it clears the buffer", x.clearBuffer(), 0);
         C.due("16: one call to undo", x.count(21), 4);
@@ -454,6 +495,14 @@ final class PromiseTest {
         C.due("16: opened twice", revel(x, "o0*2"), 1);
         C.due("16: opened twice", x.line(0), 0);
         C.due("16: an empty line", revel(x, "o0;o1*10;o2"), 3);
+        C.due("16: a night", revel(x, "^"), 1);
+        C.due("16: the debts", x.guest(0, 2), 0);
+        LaceRanks z = new LaceRanks();
+        z.come(0, 9, 4);
+        C.due("16: a fine", revel(z, "q0>0;o0"), 2);
+        z.earn(0, 7);
+        C.due("16: paying", revel(z, "$0"), 1);
+        row("16: paid", numbers(z, 0), 0, 0, 3, 2, 0, 2, 0, 1, -1, -1, -1);
         LaceRanks y = withGuests(10);
         C.due("16: all in line", revel(y, "q0>0;q1>0;q2>0;q3>0;q4>0;q5>0;q6>0;q7>0;q8>0;q9>0"), 10);
         revel(y, "o0*9");
@@ -522,6 +571,54 @@ final class PromiseTest {
         x.undo();
         C.due("18: others behind it", x.count(0), 3);
         C.due("18: others behind it", x.count(1), 0);
+    }
+
+    /** Something of each kind happens ahead of it, with at most 5 saved states. */
+    private static LaceRanks busy() {
+        LaceRanks x = new LaceRanks();
+        x.come(0, 20, 9);
+        x.come(1, 30, 40);
+        x.come(2, 9, 50);
+        x.come(3, 40, 0);
+        type(x, "^;m2;q0>0;l1>0;q3>1;o0;l2>2");
+        x.revel();
+        x.keep();
+        return x;
+    }
+
+    private static void promise18AllIsUndone() {
+        for (int i = 0; i < 12; i++) {
+            LaceRanks x = busy();
+            type(x, i == 10 ? "o1;^;q3>0;$0;q3>0;m1" : "m");
+            int kind = i;
+            String buffer = i == 10 ? "o1;^;q3>0;$0;q3>0;m1" : "";
+            long before = x.digest();
+            switch (kind) {
+                case 0: x.come(1, 2, 3); break;
+                case 1: x.leave(2); break;
+                case 2: x.earn(3, 9); break;
+                case 3: x.lend(3, 2); break;
+                case 4: x.set(5, 99); break;
+                case 5: x.mask(1); break;
+                case 6: x.pay(0); break;
+                case 7: x.queue(2, 1); break;
+                case 8: x.open(1); break;
+                case 9: x.night(); break;
+                case 10: x.revel(); break;
+                default: x.restore(); break;
+            }
+            C.due("18: saved by call " + kind, x.count(21), 6);
+            C.due("18: undo of call " + kind, x.undo(), 5);
+            type(x, buffer);
+            C.due("18: all as before call " + kind, x.digest(), before);
+        }
+        LaceRanks x = busy();
+        x.night();
+        x.giveBack(0);
+        C.due("18: giveBack", x.guest(0, 4), 0);
+        x.undo();
+        C.due("18: giveBack undone", x.guest(0, 4), 1);
+        C.due("18: giveBack saved", x.count(0), 2);
     }
 
     private static void promise19Keep() {
@@ -636,6 +733,12 @@ final class PromiseTest {
         y.open(0);
         y.open(0);
         C.due("23: the guests inside", y.count(14), 512 + 16);
+        y.mask(0);
+        y.mask(9);
+        C.due("23: masked", y.count(13), 2);
+        y.night();
+        y.mask(5);
+        C.due("23: masked for one night, or for two", y.count(13), 3);
     }
 
     private static void promise24Line() {
@@ -691,6 +794,8 @@ final class PromiseTest {
         x.earn(0, 3);
         x.mask(0);
         C.due("26: masked, ahead of the ribbons", x.whyNot(0, true), 8);
+        x.night();
+        C.due("26: masked for one night", x.whyNot(0, true), 8);
         x.set(5, 50);
         C.due("26: debts that do not bar", x.whyNot(0, false), 0);
         x.queue(0, 0);
@@ -740,6 +845,8 @@ final class PromiseTest {
         x.night();
         x.queue(2, 2);
         C.due("28: the fewest ells, whatever the line", x.bestGate(5), 2);
+        x.set(2, 1);
+        C.due("28: one ell less", x.bestGate(5), 2);
         x.mask(5);
         C.due("28: masked, by the lines", x.bestGate(5), 0);
         x.queue(0, 0);
@@ -872,6 +979,7 @@ final class PromiseTest {
         promise1NewObject();
         promise2Come();
         promise3Leave();
+        promise3LeaveFromAmongOthers();
         promise4Earn();
         promise5Lend();
         promise6GiveBack();
@@ -888,6 +996,7 @@ final class PromiseTest {
         promise16Revel();
         promise17Stopped();
         promise18Undo();
+        promise18AllIsUndone();
         promise19Keep();
         promise20Restore();
         promise21Guest();
