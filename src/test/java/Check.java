@@ -55,6 +55,10 @@ final class Check {
         refused(what, x, call, "IllegalStateException");
     }
 
+    int answers() {
+        return right + wrong;
+    }
+
     boolean isRight() {
         return wrong == 0;
     }

@@ -1,11 +1,13 @@
 /** Random runs of calls, the same ones each time, against the model; behind each call the digests agree. */
 final class ModelTest {
-    private static final int RUNS = 1500;
-    private static final int CALLS = 400;
+    private static final int RUNS = 4000;
+    // An object is used for at most 512 calls; a step takes at most some 80.
+    private static final int LAST_STEP = 420;
     private static final String SIGNS = "qoml$^;>*0123456789 x!";
 
     private final Check check = new Check("ModelTest");
     private long seed;
+    private int calls;
     private LaceRanks x;
     private Model m;
 
@@ -61,6 +63,7 @@ final class ModelTest {
     }
 
     private void same(String call, Check.Call got, Check.Call want) {
+        calls++;
         check.due(call, Check.told(got), Check.told(want));
     }
 
@@ -182,15 +185,16 @@ final class ModelTest {
         same("decentShare", x::decentShare, m::decentShare);
         int ribbons = m.count(4) + m.count(5);
         int lace = m.count(8) + m.count(9);
-        check.due("the ribbons, told in two ways", x.count(7), ribbons);
-        check.due("the lace, told in two ways", x.count(10), lace);
+        same("the ribbons, told in two ways", () -> x.count(7), () -> ribbons);
+        same("the lace, told in two ways", () -> x.count(10), () -> lace);
     }
 
     private void run(int number) {
         seed = number * 7919L + 17L;
         x = new LaceRanks();
         m = new Model();
-        for (int i = 0; i < CALLS && check.isRight(); i++) {
+        calls = 0;
+        for (int i = 0; calls < LAST_STEP && check.isRight(); i++) {
             change();
             same("run " + number + ", step " + i + ": digest", x::digest, m::digest);
             if (i % 4 == 0) {

@@ -1,56 +1,9 @@
 /** For each promise of the document: ordinary calls, the edges that it names, and wrong arguments. */
-final class PromiseTest {
+final class PromiseTest extends Runs {
     private static final Check C = new Check("PromiseTest");
 
     private static void row(String what, int[] got, int... want) {
         C.due(what, java.util.Arrays.toString(got), java.util.Arrays.toString(want));
-    }
-
-    private static int[] counts(LaceRanks x, int from, int to) {
-        int[] all = new int[to - from + 1];
-        for (int i = 0; i < all.length; i++) {
-            all[i] = x.count(from + i);
-        }
-        return all;
-    }
-
-    private static int[] numbers(LaceRanks x, int guest) {
-        int[] all = new int[11];
-        for (int i = 0; i < all.length; i++) {
-            all[i] = x.guest(guest, i);
-        }
-        return all;
-    }
-
-    private static int[] brought(LaceRanks x, int guest, int gate) {
-        return new int[] {
-            x.ifOpened(guest, gate, 0), x.ifOpened(guest, gate, 1), x.ifOpened(guest, gate, 2),
-            x.ifOpened(guest, gate, 3)};
-    }
-
-    private static void type(LaceRanks x, String text) {
-        for (int i = 0; i < text.length(); i++) {
-            x.append(text.charAt(i));
-        }
-    }
-
-    private static int revel(LaceRanks x, String text) {
-        type(x, text);
-        return x.revel();
-    }
-
-    private static int firstError(String text) {
-        LaceRanks x = new LaceRanks();
-        type(x, text);
-        return x.firstError();
-    }
-
-    private static LaceRanks withGuests(int guests) {
-        LaceRanks x = new LaceRanks();
-        for (int i = 0; i < guests; i++) {
-            x.come(i % 5, 10, 20);
-        }
-        return x;
     }
 
     private static void promise1NewObject() {
@@ -907,60 +860,15 @@ final class PromiseTest {
         C.due("30: none", y.decentShare(), 0.0);
     }
 
-    /** The hash of the document, told through the other calls of the face. */
-    private static long digestOf(LaceRanks x, String buffer) {
-        long[] hash = {3923};
-        for (int v : counts(x, 0, 21)) {
-            add(hash, v);
-        }
-        int[][] lines = new int[3][10];
-        for (int g = 0; g < x.count(1); g++) {
-            for (int v : numbers(x, g)) {
-                add(hash, v);
-            }
-            add(hash, x.whyNot(g, true));
-            add(hash, x.whyNot(g, false));
-            add(hash, x.bestGate(g));
-            for (int gate = 0; gate < 3; gate++) {
-                for (int v : brought(x, g, gate)) {
-                    add(hash, v);
-                }
-                add(hash, x.freeIn(g, gate));
-            }
-            if (x.guest(g, 8) >= 0) {
-                lines[x.guest(g, 8)][x.guest(g, 9)] = g;
-            }
-        }
-        for (int gate = 0; gate < 3; gate++) {
-            add(hash, x.line(gate));
-            for (int rank = 0; rank < 5; rank++) {
-                add(hash, x.law(gate, rank, x.count(0)));
-            }
-            for (int place = 0; place < x.line(gate); place++) {
-                add(hash, lines[gate][place]);
-            }
-        }
-        add(hash, x.stopped(0));
-        add(hash, x.stopped(1));
-        add(hash, Double.doubleToLongBits(x.decentShare()));
-        add(hash, buffer.length());
-        for (int i = 0; i < buffer.length(); i++) {
-            add(hash, buffer.charAt(i));
-        }
-        return hash[0];
-    }
-
-    private static void add(long[] hash, long value) {
-        hash[0] = 31 * hash[0] + value;
-    }
-
     private static void promise31Digest() {
         LaceRanks x = new LaceRanks();
         C.due("31: a new object", x.digest(), digestOf(x, ""));
         for (int decent = 0; decent <= 10; decent++) {
-            LaceRanks y = new LaceRanks();
-            for (int i = 0; i < 10; i++) {
-                y.come(0, i < decent ? 2 : 40, 7 * i);
+            for (int all = 1; all <= 10; all++) {
+                LaceRanks y = new LaceRanks();
+                for (int i = 0; i < all; i++) {
+                    y.come(0, i < decent ? 2 : 40, 7 * i);
+                }
                 C.due("31: the bits of each share", y.digest(), digestOf(y, ""));
             }
         }
