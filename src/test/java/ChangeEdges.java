@@ -15,6 +15,7 @@ final class ChangeEdges extends Runs {
         all.comeRefused();
         all.leave();
         all.numbersBehindOneWhoLeft();
+        all.linesBehindOneWhoLeft();
         all.leaveRefused();
         all.earn();
         all.lend();
@@ -163,7 +164,8 @@ final class ChangeEdges extends Runs {
                 x.leave(left);
                 for (int i = 0; i < 9; i++) {
                     int was = i < left ? i : i + 1;
-                    e.row("guest " + i + " behind " + left, numbers(x, i), was % 5, 10 + was, 0, was, i, was, 0, 0, NONE, NONE, NONE);
+                    e.row("guest " + i + " behind " + left, numbers(x, i),
+                        was % 5, 10 + was, 0, was, i, was, 0, 0, NONE, NONE, NONE);
                 }
                 e.told("no tenth", () -> x.guest(9, 0), Edges.INDEX);
             });
@@ -204,10 +206,34 @@ final class ChangeEdges extends Runs {
         }
     }
 
+    private void linesBehindOneWhoLeft() {
+        for (int gate = 0; gate < 3; gate++) {
+            int its = gate;
+            e.of("3", "Those behind it have numbers that are less by 1.", x -> {
+                x.set(0, 20);
+                come(x, 10);
+                int[] line = {9, 0, 4, 1, 8, 2, 7, 6, 5};
+                for (int guest : line) {
+                    x.queue(guest, its);
+                }
+                x.leave(3);
+                int inside = 0;
+                for (int guest : line) {
+                    int now = guest > 3 ? guest - 1 : guest;
+                    e.row("the first", new int[] {x.guest(now, 8), x.guest(now, 9)}, its, 0);
+                    x.open(its);
+                    inside |= 1 << now;
+                    e.due("inside", x.count(14), inside);
+                }
+            });
+        }
+    }
+
     private void leaveRefused() {
         e.noSuchGuest("3", NO_GUEST, LaceRanks::leave);
         e.everyGuest("3", "guest", LaceRanks::leave);
-        String state = "Throws `IllegalStateException` if it lent its coat away, or wears one that was lent, or is inside, or "
+        String state = "Throws `IllegalStateException` if it lent its coat away, or wears one that was lent, or is "
+            + "inside, or "
             + "stands in a line";
         e.of("3", state, x -> {
             e.refused("it lent its coat away", y -> revelOf(y, "l0>1"), y -> y.leave(0), Edges.STATE);

@@ -13,8 +13,10 @@ final class Document {
     /** They only tell what a thing is for; the sentences beside them tell what is due. */
     private static final List<String> NAMES_NO_EDGE = List.of(
         "guests with ranks, purses of ribbons and coats of lace, coats that are lent", "Sumptuary laws of a carnival",
-        "what later calls answer is free", "how many ells of lace a rank may wear in a night", "Ahead of the calls", "----",
-        "nothing is changed.", "Changes a setting.", "Tells of the latest stop of revel().", "Returns something of a guest.",
+        "what later calls answer is free", "how many ells of lace a rank may wear in a night",
+        "Ahead of the calls", "----",
+        "nothing is changed.", "Changes a setting.", "Tells of the latest stop of revel().", "Returns something of a "
+            + "guest.",
         "Returns the number.", "Returns a number.", "Tells how many ells the law of a gate allows for a rank.",
         "Returns the length of the line of a gate.", "Tells why a coat cannot be lent.",
         "Tells why a guest cannot stand in a line, or take a mask.", "Finds the best gate for a guest.",
@@ -66,7 +68,8 @@ final class Document {
     private static boolean isQuoted(String section, String sentence, List<String[]> quotes) {
         String words = sentence.replaceAll("[.;:,]$", "");
         for (String[] quote : quotes) {
-            if (quote[0].equals(section) && (quote[1].contains(words) || words.contains(quote[1].replaceAll("[.;:,]$", "")))) {
+            String quoted = quote[1].replaceAll("[.;:,]$", "");
+            if (quote[0].equals(section) && (quoted.contains(words) || words.contains(quoted))) {
                 return true;
             }
         }

@@ -32,7 +32,12 @@ final class Edges {
         quotes.add(new String[] {section, sentence});
         where = section + ", \"" + sentence + "\": ";
         int before = check.answers();
-        test.accept(new LaceRanks());
+        try {
+            test.accept(new LaceRanks());
+        } catch (RuntimeException thrown) {
+            // One sentence that does not hold shall not hide the others.
+            due("a call that is due to answer", thrown, "no exception");
+        }
         if (check.answers() == before) {
             due("answers are looked at", false, true);
         }
@@ -64,7 +69,7 @@ final class Edges {
         refusedAsItIs(what + ", with all that could change", before.andThen(Edges::clutter), call, want);
     }
 
-    /** Of no guest, of one, of two and of 10: the numbers just outside, and far outside; the last one inside is there. */
+    /** With no guest, one, two and 10: the numbers just outside, and far outside; the last one inside is there. */
     void noSuchGuest(String section, String sentence, GuestCall call) {
         of(section, sentence, x -> {
             for (int guests : new int[] {0, 1, 2, 10}) {

@@ -15,6 +15,7 @@ final class RevelEdges extends Runs {
         all.clearBuffer();
         all.firstError();
         all.revelStops();
+        all.stoppingPartChangesNothing();
         all.revelAlwaysCan();
         all.revelIsOneCall();
         all.howManyParts();
@@ -104,7 +105,8 @@ final class RevelEdges extends Runs {
             e.due("the first of three", x.firstError(), 8);
             e.due("the buffer stays", x.clearBuffer(), 16);
         });
-        String index = "Returns the index of the first character that is a syntax error; the length of the buffer if there is "
+        String index = "Returns the index of the first character that is a syntax error; the length of the buffer if "
+            + "there is "
             + "none.";
         e.of("15", index, x -> {
             e.due("empty", x.firstError(), 0);
@@ -127,7 +129,8 @@ final class RevelEdges extends Runs {
     }
 
     private void revelStops() {
-        String happens = "Lets the carnival in the buffer happen, part by part, up to the first part that cannot, and clears the "
+        String happens = "Lets the carnival in the buffer happen, part by part, up to the first part that cannot, "
+            + "and clears the "
             + "buffer.";
         e.of("16", happens, x -> {
             LaceRanks y = five();
@@ -151,8 +154,30 @@ final class RevelEdges extends Runs {
         });
     }
 
+    private void stoppingPartChangesNothing() {
+        String happens = "Lets the carnival in the buffer happen, part by part, up to the first part that cannot, and clears "
+            + "the buffer.";
+        String[] parts = {
+            "l0>1;l2>0;l3>3", "l0>1;l2>0;l0>3", "l0>1;l2>0;l1>3", "l0>1;l2>0;l3>0", "q0>0;o0;l1>0", "q0>0;o0;q0>1",
+            "q0>0;q1>0;q0>2", "q4>0;o0;^;q4>1", "m0;m0", "m0;^;m0", "^;m4", "^;q5>0", "^;m5", "^;l0>5", "^;l5>0", "^;$5"};
+        for (String text : parts) {
+            e.of("16", happens, x -> {
+                LaceRanks stopped = five();
+                LaceRanks twin = five();
+                revel(stopped, text + ";^;m1");
+                revel(twin, text.substring(0, text.lastIndexOf(';')));
+                e.due(text + " stops at its end", stopped.stopped(0), text.replaceAll("[^;]", "").length());
+                e.row("counts of " + text, counts(stopped, 0, 21), counts(twin, 0, 21));
+                for (int i = 0; i < 5; i++) {
+                    e.row("guest " + i + " of " + text, numbers(stopped, i), numbers(twin, i));
+                }
+            });
+        }
+    }
+
     private void revelAlwaysCan() {
-        String can = "(Opening, paying and the end of the night always can; opening a gate with an empty line does nothing.)";
+        String can = "(Opening, paying and the end of the night always can; opening a gate with an empty line does "
+            + "nothing.)";
         e.of("16", can, x -> {
             e.due("empty lines", revel(x, "o0;o1;o2;o0*1;o1*10;o2*9"), 6);
             e.row("nothing", counts(x, 0, 14), 0, 0, 0, 0, 0, 0, 0, 0, 0, 0, 0, 0, 0, 0, 0);
@@ -234,9 +259,11 @@ final class RevelEdges extends Runs {
     }
 
     private void revelRefused() {
-        e.of("16", "Throws `IllegalArgumentException` if the buffer is not a complete carnival as a text (the buffer stays)", x -> {
+        e.of("16", "Throws `IllegalArgumentException` if the buffer is not a complete carnival as a text (the buffer "
+            + "stays)", x -> {
             String[] texts = {
-                "", ";", "^;", "q", "q0", "q0>", "q0>3", "q10>0", "o", "o3", "o0*", "o0*0", "o0*11", "m", "m;", "l", "l0",
+                "", ";", "^;", "q", "q0", "q0>", "q0>3", "q10>0", "o", "o3", "o0*", "o0*0", "o0*11", "m", "m;", "l",
+                "l0",
                 "l0>", "l0>10", "$", "^^", "^;;^", "^;x", "x;^", "^;q0>0;", NIGHTS_56 + "^;^;", NIGHTS_56 + "^;^^",
                 NIGHTS_56 + "^;m", "~" + NIGHTS_56 + "^;^"};
             for (String text : texts) {
@@ -305,7 +332,8 @@ final class RevelEdges extends Runs {
 
     private void reasonsOfMissingGuests() {
         e.of("17", "or 10 if there is no such guest", x -> {
-            for (String part : new String[] {"q5>0", "q9>2", "m5", "m9", "l5>0", "l0>5", "l5>5", "l9>9", "l9>0", "$5", "$9"}) {
+            String[] parts = {"q5>0", "q9>2", "m5", "m9", "l5>0", "l0>5", "l5>5", "l9>9", "l9>0", "$5", "$9"};
+            for (String part : parts) {
                 reason(part, 0, 10);
                 reason("^;" + part + ";^", 1, 10);
             }

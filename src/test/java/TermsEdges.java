@@ -19,6 +19,7 @@ final class TermsEdges extends Runs {
         all.guestsAndTheirNumbers();
         all.purses();
         all.debtsLaceAndMasks();
+        all.newcomers();
         all.whoWearsWhat();
         all.reasonsOfLoans();
         all.firstReasonOfLoans();
@@ -148,6 +149,16 @@ final class TermsEdges extends Runs {
             e.due("its debts", x.guest(0, 2), 0);
             e.due("debts of all", x.count(6), 0);
         });
+        e.of(COATS, "debts in ribbons, at first 0;", x -> {
+            x.come(0, 40, 0);
+            enter(x, 0, 0);
+            x.night();
+            e.due("the debts of one who leaves", x.leave(0), 76);
+            x.come(0, 2, 0);
+            e.due("not those of the next one", x.guest(0, 2), 0);
+            e.due("debts of all", x.count(6), 0);
+            e.due("there is nothing to pay", x.pay(0), 0);
+        });
         e.of(COATS, "a coat of its own with lace, in ells, 0 to 40;", x -> {
             x.come(0, 0, 0);
             x.come(0, 40, 0);
@@ -185,6 +196,30 @@ final class TermsEdges extends Runs {
         });
     }
 
+    private void newcomers() {
+        e.of(COATS, "nights for which a mask is good still, at first 0", x -> {
+            come(x, 2);
+            x.mask(1);
+            x.leave(1);
+            x.come(0, 0, 9);
+            e.due("not the mask of one who left", x.guest(1, 6), 0);
+            x.mask(1);
+            x.leave(0);
+            x.come(0, 0, 9);
+            e.row("nor of one who has another number now", new int[] {x.guest(0, 6), x.guest(1, 6)}, 2, 0);
+        });
+        e.of(COATS, "There are at most 10 guests, numbered from 0.", x -> {
+            x.come(4, 0, 0);
+            x.come(0, 0, 0);
+            x.queue(1, 0);
+            x.open(0);
+            x.leave(0);
+            e.due("one comes", x.come(0, 1, 2), 1);
+            e.row("with nothing of those before", numbers(x, 1), 0, 2, 0, 1, 1, 1, 0, 0, NONE, NONE, NONE);
+            e.due("only the other one is inside", x.count(14), 1);
+        });
+    }
+
     private void whoWearsWhat() {
         e.of(COATS, "A guest wears the own coat, or one that was lent to it;", x -> {
             come(x, 2);
@@ -217,7 +252,8 @@ final class TermsEdges extends Runs {
             e.due("the one", x.guest(1, 4), 0);
             e.due("not the second one", x.guest(2, 4), 2);
         });
-        e.of(COATS, "The one to whom a coat is lent leaves the own coat at home; it is not worn by anybody then.", x -> {
+        String home = "The one to whom a coat is lent leaves the own coat at home; it is not worn by anybody then.";
+        e.of(COATS, home, x -> {
             x.come(0, 7, 0);
             x.come(0, 40, 0);
             x.lend(0, 1);
@@ -648,7 +684,8 @@ final class TermsEdges extends Runs {
     }
 
     private void finesOfLenders() {
-        String half = "if the coat was lent, the one who lent it pays half of what is left of this fine (rounded down), "
+        String half = "if the coat was lent, the one who lent it pays half of what is left of this fine (rounded "
+            + "down), "
             + "as far as its purse goes, and the debt is so much less.";
         int[] left = {0, 1, 2, 3, 4, 10};
         for (int ribbons : left) {
@@ -741,7 +778,8 @@ final class TermsEdges extends Runs {
     }
 
     private void nights() {
-        String ends = "When a night ends, all go out, all lines are empty, each mask is good for one night less, at least "
+        String ends = "When a night ends, all go out, all lines are empty, each mask is good for one night less, at "
+            + "least "
             + "0, and the night is 1 more (from 0 on).";
         e.of(NIGHTS, ends, x -> {
             come(x, 10);
@@ -856,7 +894,8 @@ final class TermsEdges extends Runs {
             enter(x, 0, 0);
             e.row("purses, chest, debts, what came", counts(x, 4, 7), 0, 9, 27, 9);
         });
-        String came = "What came with guests, and was earned, is the same, as nothing leaves but with a guest who goes.";
+        String came = "What came with guests, and was earned, is the same, as nothing leaves but with a guest who "
+            + "goes.";
         e.of(ACCOUNTS, came, x -> {
             e.due("nothing", x.count(7), 0);
             x.come(0, 0, 99);
@@ -871,7 +910,8 @@ final class TermsEdges extends Runs {
             x.leave(0);
             e.row("only the chest is left", counts(x, 4, 7), 0, 3, 0, 3);
         });
-        String lace = "The lace of all coats, and that of the chest of lace, together, is what came with guests, less what "
+        String lace = "The lace of all coats, and that of the chest of lace, together, is what came with guests, "
+            + "less what "
             + "went with them.";
         e.of(ACCOUNTS, lace, x -> {
             e.row("nothing", counts(x, 8, 10), 0, 0, 0);

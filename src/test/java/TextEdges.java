@@ -93,7 +93,8 @@ final class TextEdges extends Runs {
         });
         e.of(TEXT, most, x -> {
             x.come(0, 0, 9);
-            e.due("60 characters that are a carnival", revel(x, "^;^;^;^;^;^;^;^;^;^;^;^;^;^;^;^;^;^;^;^;^;^;^;^;^;^;^;^;^;m0"), 30);
+            type(x, "^;^;^;^;^;^;^;^;^;^;^;^;^;^;^;^;^;^;^;^;^;^;^;^;^;^;^;^;^;m0");
+            e.due("60 characters that are a carnival", x.revel(), 30);
             e.row("all happens", new int[] {x.count(0), x.count(13)}, 29, 1);
         });
     }
@@ -312,7 +313,8 @@ final class TextEdges extends Runs {
     }
 
     private void errors() {
-        String error = "a character is a syntax error if no carnival as a text, of any length, begins with the characters "
+        String error = "a character is a syntax error if no carnival as a text, of any length, begins with the "
+            + "characters "
             + "before it and this character.";
         e.of(TEXT, error, x -> {
             for (String ahead : new String[] {"", "^;", "q9>2;", "o0;", "o0*1;", "o2*10;", "m0;", "l0>0;", "$9;"}) {

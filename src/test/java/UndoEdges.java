@@ -4,9 +4,11 @@ final class UndoEdges extends Runs {
     private static final String EXCEPTIONS = "Exceptions";
     private static final String FULL = "^;^;^;^;^;^;^;^;^;^;^;^;^;^;^;^;^;^;^;^;^;^;^;^;^;^;^;^;^;^^";
     private static final String[] UNDOABLE = {
-        "come", "leave", "earn", "lend", "giveBack", "mask", "pay", "queue", "open", "night", "set", "revel", "restore"};
+        "come", "leave", "earn", "lend", "giveBack", "mask", "pay", "queue", "open", "night", "set", "revel",
+        "restore"};
     private static final String SAVES =
-        "Each method that is marked \"undoable\" and does not throw an exception saves the state from before it (also if "
+        "Each method that is marked \"undoable\" and does not throw an exception saves the state from before it "
+            + "(also if "
         + "it changes nothing)";
 
     private final Edges e;
@@ -19,6 +21,7 @@ final class UndoEdges extends Runs {
         UndoEdges all = new UndoEdges(e);
         all.constants();
         all.saving();
+        all.whatIsSaved();
         all.savingWithoutChange();
         all.notSaving();
         all.throwingSavesNothing();
@@ -84,6 +87,63 @@ final class UndoEdges extends Runs {
                 e.due("the state from before " + method, x.digest(), before);
             });
         }
+    }
+
+    private void whatIsSaved() {
+        String all = "saves the state from before it";
+        for (int left = 0; left < 3; left++) {
+            int gone = left;
+            e.of(UNDO, all, x -> {
+                x.come(0, 40, 1);
+                x.come(3, 30, 2);
+                x.come(1, 20, 3);
+                x.mask(2);
+                x.keep();
+                x.leave(gone);
+                x.undo();
+                e.row("guest 0", numbers(x, 0), 0, 1, 0, 40, 0, 40, 0, 0, NONE, NONE, NONE);
+                e.row("guest 1", numbers(x, 1), 3, 2, 0, 30, 1, 30, 0, 0, NONE, NONE, NONE);
+                e.row("guest 2", numbers(x, 2), 1, 0, 0, 20, 2, 20, 2, 0, NONE, NONE, NONE);
+                x.leave(gone);
+                x.come(4, 4, 4);
+                x.restore();
+                e.row("ranks", new int[] {x.guest(0, 0), x.guest(1, 0), x.guest(2, 0)}, 0, 3, 1);
+            });
+        }
+        for (int gate = 0; gate < 3; gate++) {
+            int its = gate;
+            e.of(UNDO, all, x -> {
+                come(x, 6);
+                x.queue(5, its);
+                x.queue(2, its);
+                x.queue(4, its);
+                x.keep();
+                x.open(its);
+                x.open(its);
+                x.undo();
+                e.row("two places", new int[] {x.guest(5, 9), x.guest(2, 9), x.guest(4, 9)}, NONE, 0, 1);
+                x.undo();
+                e.row("three places", new int[] {x.guest(5, 9), x.guest(2, 9), x.guest(4, 9)}, 0, 1, 2);
+                x.leave(0);
+                e.row("places", new int[] {x.guest(4, 9), x.guest(1, 9), x.guest(3, 9)}, 0, 1, 2);
+                x.undo();
+                e.row("places", new int[] {x.guest(5, 9), x.guest(2, 9), x.guest(4, 9)}, 0, 1, 2);
+                x.night();
+                x.queue(1, its);
+                x.restore();
+                e.row("places", new int[] {x.guest(5, 9), x.guest(2, 9), x.guest(4, 9)}, 0, 1, 2);
+                e.due("one who stood there in the other night", x.guest(1, 9), NONE);
+            });
+        }
+        e.of(UNDO, all, x -> {
+            for (int setting = 0; setting < 6; setting++) {
+                x.set(setting, 9);
+            }
+            for (int setting = 5; setting >= 0; setting--) {
+                x.undo();
+            }
+            e.row("settings", counts(x, 15, 20), 2, 4, 3, 2, 2, 10);
+        });
     }
 
     private void savingWithoutChange() {
