@@ -15,6 +15,7 @@ final class RevelEdges extends Runs {
         all.clearBuffer();
         all.firstError();
         all.revelStops();
+        all.shorterBehindLonger();
         all.stoppingPartChangesNothing();
         all.revelAlwaysCan();
         all.revelIsOneCall();
@@ -87,6 +88,22 @@ final class RevelEdges extends Runs {
             x.clearBuffer();
             e.due("there is room again", x.append('m'), 1);
         });
+        for (String cleared : new String[] {"o1*10", "o1*19", "o1*9;", "o1*2", "~~~~0", "~~*10", "~~~~;o1"}) {
+            e.of("14", "Clears the buffer.", x -> {
+                come(x, 10);
+                for (int i = 0; i < 10; i++) {
+                    x.queue(i, 1);
+                }
+                type(x, cleared);
+                x.clearBuffer();
+                e.due("nothing of '" + cleared + "' stands behind o1", revel(x, "o1"), 1);
+                e.due("opened once", x.count(2), 1);
+                type(x, cleared);
+                x.clearBuffer();
+                e.due("nothing of '" + cleared + "' stands behind o1*1", revel(x, "o1*1"), 1);
+                e.due("opened once", x.count(2), 2);
+            });
+        }
         e.of("14", "Returns the length that it had.", x -> {
             e.due("empty", x.clearBuffer(), 0);
             x.append('^');
@@ -152,6 +169,22 @@ final class RevelEdges extends Runs {
             e.due("part by part, each on what is behind the one before", revel(y, "q0>0;^;q0>1;o1;^;q0>2"), 6);
             e.row("lines", new int[] {y.line(0), y.line(1), y.line(2)}, 0, 0, 1);
         });
+    }
+
+    private void shorterBehindLonger() {
+        for (String longer : new String[] {"o0*10", "o0*9;^", "m0;o0*10", "^;^;^;^;^;^"}) {
+            for (String once : new String[] {"o0", "o0*1"}) {
+                e.of("16", "and clears the buffer.", x -> {
+                    come(x, 10);
+                    revel(x, longer);
+                    for (int i = 0; i < 10; i++) {
+                        x.queue(i, 0);
+                    }
+                    e.due(once + " behind " + longer, revel(x, once), 1);
+                    e.due("opened once", x.count(2), 1);
+                });
+            }
+        }
     }
 
     private void stoppingPartChangesNothing() {
