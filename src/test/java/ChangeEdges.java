@@ -233,8 +233,7 @@ final class ChangeEdges extends Runs {
         e.noSuchGuest("3", NO_GUEST, LaceRanks::leave);
         e.everyGuest("3", "guest", LaceRanks::leave);
         String state = "Throws `IllegalStateException` if it lent its coat away, or wears one that was lent, or is "
-            + "inside, or "
-            + "stands in a line";
+            + "inside, or stands in a line";
         e.of("3", state, x -> {
             e.refused("it lent its coat away", y -> revelOf(y, "l0>1"), y -> y.leave(0), Edges.STATE);
             e.due("one who has its coat", left("l2>1", 0), "0");

@@ -38,14 +38,10 @@ final class LookEdges extends Runs {
 
     private void guest() {
         String what = "`what`: 0: its rank; 1: its purse; 2: its debts; 3: the lace of its own coat; 4: the guest "
-            + "whose coat it "
-            + "wears (itself for the own one), NONE without a coat; 5: the lace that it wears, 0 without a coat; 6: "
-            + "nights for "
-            + "which its mask is good; 7: 1 if it is inside, otherwise 0; 8: the gate in whose line it stands, NONE "
-            + "if in "
-            + "none; 9: its place in that line, from 0, NONE if in none; 10: the guest to whom its coat is lent, "
-            + "NONE if it is "
-            + "not";
+            + "whose coat it wears (itself for the own one), NONE without a coat; 5: the lace that it wears, 0 "
+            + "without a coat; 6: nights for which its mask is good; 7: 1 if it is inside, otherwise 0; 8: the gate "
+            + "in whose line it stands, NONE if in none; 9: its place in that line, from 0, NONE if in none; 10: the "
+            + "guest to whom its coat is lent, NONE if it is not";
         e.of("21", what, x -> {
             x.come(0, 0, 0);
             x.come(4, 40, 99);
@@ -165,14 +161,11 @@ final class LookEdges extends Runs {
 
     private void count() {
         String what = "`what`: 0: the night; 1: guests; 2: guests inside; 3: guests in lines; 4: ribbons in purses; "
-            + "5: ribbons "
-            + "in the chest; 6: debts of all; 7: ribbons in purses and the chest, told by what came, was earned, and "
-            + "went; 8: "
-            + "lace of all coats; 9: lace in its chest; 10: lace of coats and its chest, told by what came and went; "
-            + "11: "
-            + "guests who were fined so far; 12: ells cut so far; 13: guests who are masked; 14: a mask of the "
-            + "guests inside, "
-            + "with the bit g for the guest g; 15 to 20: the settings 0 to 5; 21: saved states";
+            + "5: ribbons in the chest; 6: debts of all; 7: ribbons in purses and the chest, told by what came, was "
+            + "earned, and went; 8: lace of all coats; 9: lace in its chest; 10: lace of coats and its chest, told by "
+            + "what came and went; 11: guests who were fined so far; 12: ells cut so far; 13: guests who are masked; "
+            + "14: a mask of the guests inside, with the bit g for the guest g; 15 to 20: the settings 0 to 5; 21: "
+            + "saved states";
         e.of("23", what, x -> {
             e.row("nothing", counts(x, 0, 21), 0, 0, 0, 0, 0, 0, 0, 0, 0, 0, 0, 0, 0, 0, 0, 2, 4, 3, 2, 2, 10, 0);
             x.come(0, 10, 5);
@@ -438,8 +431,7 @@ final class LookEdges extends Runs {
 
     private void bestGate() {
         String best = "Returns the gate at which the fewest ells would be cut now; of several the one with the "
-            + "shortest line; of "
-            + "several of those the lowest.";
+            + "shortest line; of several of those the lowest.";
         e.of("28", best, x -> {
             x.come(0, 40, 0);
             e.due("38, 40, 38 ells", x.bestGate(0), 0);
@@ -512,8 +504,7 @@ final class LookEdges extends Runs {
 
     private void freeIn() {
         String nights = "Returns behind how many nights, 0 for this one, the law of the gate allows the lace that it "
-            + "wears (masks "
-            + "do not matter); NONE if not in 6.";
+            + "wears (masks do not matter); NONE if not in 6.";
         e.of("29", nights, x -> {
             for (int lace = 0; lace <= 9; lace++) {
                 x.come(0, lace, 9);
@@ -586,8 +577,7 @@ final class LookEdges extends Runs {
 
     private void decentShare() {
         String share = "Returns the guests whose lace that they wear the gate 0 allows in this night, as a double, "
-            + "divided by all "
-            + "guests; 1.0 without any.";
+            + "divided by all guests; 1.0 without any.";
         e.of("30", share, x -> {
             e.due("without any", x.decentShare(), 1.0);
             come(x, 1);
@@ -630,14 +620,11 @@ final class LookEdges extends Runs {
 
     private void digest() {
         String list = "The values are: count(0) to count(21); for each guest its numbers 0 to 10, whyNot of a mask "
-            + "and of a line, "
-            + "bestGate, and for each gate ifOpened with 0 to 3, and freeIn; for each gate its line, law of the "
-            + "ranks 0 to 4 in "
-            + "this night, and each guest in its line; stopped with 0 and 1; the bits of decentShare (as "
-            + "Double.doubleToLongBits); the length of the buffer and each of its character codes.";
-        String hash = "The hash starts at 3923. For each value v of the following list, in order, the hash becomes "
-            + "31 * hash + v, "
-            + "in long arithmetic with overflow.";
+            + "and of a line, bestGate, and for each gate ifOpened with 0 to 3, and freeIn; for each gate its line, "
+            + "law of the ranks 0 to 4 in this night, and each guest in its line; stopped with 0 and 1; the bits of "
+            + "decentShare (as Double.doubleToLongBits); the length of the buffer and each of its character codes.";
+        String hash = "The hash starts at 3923. For each value v of the following list, in order, the hash becomes 31 "
+            + "* hash + v, in long arithmetic with overflow.";
         e.of("31", hash, x -> e.due("a new object", x.digest(), digestOf(x, "")));
         e.of("31", list, x -> {
             come(x, 10);

@@ -123,8 +123,7 @@ final class RevelEdges extends Runs {
             e.due("the buffer stays", x.clearBuffer(), 16);
         });
         String index = "Returns the index of the first character that is a syntax error; the length of the buffer if "
-            + "there is "
-            + "none.";
+            + "there is none.";
         e.of("15", index, x -> {
             e.due("empty", x.firstError(), 0);
             type(x, ";");
@@ -146,9 +145,8 @@ final class RevelEdges extends Runs {
     }
 
     private void revelStops() {
-        String happens = "Lets the carnival in the buffer happen, part by part, up to the first part that cannot, "
-            + "and clears the "
-            + "buffer.";
+        String happens = "Lets the carnival in the buffer happen, part by part, up to the first part that cannot, and "
+            + "clears the buffer.";
         e.of("16", happens, x -> {
             LaceRanks y = five();
             e.due("the third cannot", revel(y, "m0;q0>0;q0>0;m1;^"), 2);
@@ -188,11 +186,12 @@ final class RevelEdges extends Runs {
     }
 
     private void stoppingPartChangesNothing() {
-        String happens = "Lets the carnival in the buffer happen, part by part, up to the first part that cannot, and clears "
-            + "the buffer.";
+        String happens = "Lets the carnival in the buffer happen, part by part, up to the first part that cannot, and "
+            + "clears the buffer.";
         String[] parts = {
             "l0>1;l2>0;l3>3", "l0>1;l2>0;l0>3", "l0>1;l2>0;l1>3", "l0>1;l2>0;l3>0", "q0>0;o0;l1>0", "q0>0;o0;q0>1",
-            "q0>0;q1>0;q0>2", "q4>0;o0;^;q4>1", "m0;m0", "m0;^;m0", "^;m4", "^;q5>0", "^;m5", "^;l0>5", "^;l5>0", "^;$5"};
+            "q0>0;q1>0;q0>2", "q4>0;o0;^;q4>1", "m0;m0", "m0;^;m0", "^;m4", "^;q5>0", "^;m5", "^;l0>5", "^;l5>0",
+            "^;$5"};
         for (String text : parts) {
             e.of("16", happens, x -> {
                 LaceRanks stopped = five();

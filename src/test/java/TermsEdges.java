@@ -615,8 +615,8 @@ final class TermsEdges extends Runs {
     }
 
     private void asTheLawAllows() {
-        String law = "Otherwise, if the lace of the coat that it wears is at most what the law allows for its rank, it "
-            + "goes in.";
+        String law = "Otherwise, if the lace of the coat that it wears is at most what the law allows for its rank, "
+            + "it goes in.";
         e.of(OPENING, law, x -> {
             x.set(5, 99);
             for (int rank = 0; rank <= 4; rank++) {
@@ -685,8 +685,7 @@ final class TermsEdges extends Runs {
 
     private void finesOfLenders() {
         String half = "if the coat was lent, the one who lent it pays half of what is left of this fine (rounded "
-            + "down), "
-            + "as far as its purse goes, and the debt is so much less.";
+            + "down), as far as its purse goes, and the debt is so much less.";
         int[] left = {0, 1, 2, 3, 4, 10};
         for (int ribbons : left) {
             e.of(OPENING, half, x -> {
@@ -779,8 +778,7 @@ final class TermsEdges extends Runs {
 
     private void nights() {
         String ends = "When a night ends, all go out, all lines are empty, each mask is good for one night less, at "
-            + "least "
-            + "0, and the night is 1 more (from 0 on).";
+            + "least 0, and the night is 1 more (from 0 on).";
         e.of(NIGHTS, ends, x -> {
             come(x, 10);
             for (int i = 0; i < 10; i++) {
@@ -910,9 +908,8 @@ final class TermsEdges extends Runs {
             x.leave(0);
             e.row("only the chest is left", counts(x, 4, 7), 0, 3, 0, 3);
         });
-        String lace = "The lace of all coats, and that of the chest of lace, together, is what came with guests, "
-            + "less what "
-            + "went with them.";
+        String lace = "The lace of all coats, and that of the chest of lace, together, is what came with guests, less "
+            + "what went with them.";
         e.of(ACCOUNTS, lace, x -> {
             e.row("nothing", counts(x, 8, 10), 0, 0, 0);
             x.come(0, 40, 0);

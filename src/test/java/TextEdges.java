@@ -314,8 +314,7 @@ final class TextEdges extends Runs {
 
     private void errors() {
         String error = "a character is a syntax error if no carnival as a text, of any length, begins with the "
-            + "characters "
-            + "before it and this character.";
+            + "characters before it and this character.";
         e.of(TEXT, error, x -> {
             for (String ahead : new String[] {"", "^;", "q9>2;", "o0;", "o0*1;", "o2*10;", "m0;", "l0>0;", "$9;"}) {
                 only(ahead, "qoml$^");

@@ -6,10 +6,8 @@ final class UndoEdges extends Runs {
     private static final String[] UNDOABLE = {
         "come", "leave", "earn", "lend", "giveBack", "mask", "pay", "queue", "open", "night", "set", "revel",
         "restore"};
-    private static final String SAVES =
-        "Each method that is marked \"undoable\" and does not throw an exception saves the state from before it "
-            + "(also if "
-        + "it changes nothing)";
+    private static final String SAVES = "Each method that is marked \"undoable\" and does not throw an exception "
+        + "saves the state from before it (also if it changes nothing)";
 
     private final Edges e;
 
